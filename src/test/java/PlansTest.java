@@ -70,8 +70,10 @@ public final class PlansTest {
         dead.act(0);
         check.due("16: of a dead one", dead.target(0), -1);
         check.due("16: that it was", dead.target(1), -1);
-        dead.come(0, at(8, 2), 20);
-        check.due("16: another one", dead.target(1), 3);
+        dead.come(0, at(8, 2), 1);
+        check.due("16: another one, with a LIFE of 1", dead.target(1), 3);
+        dead.set(at(7, 2), 1);
+        check.due("16: which is the prey, too", dead.worth(2, 1), 14);
     }
 
     private static void promise17Way() {
@@ -112,6 +114,13 @@ public final class PlansTest {
         check.due("17: to one past another one", lane.way(0, at(6, 1)), -1);
         check.due("17: of 1 to 0", lane.way(1, at(1, 1)), 3);
         check.due("17: of 1 to 2", lane.way(1, at(6, 1)), 2);
+        check.due("17: of 2 past 1", lane.way(2, at(1, 1)), -1);
+        Warren first = new Warren();
+        first.dig(1, 1, 5, 1);
+        first.come(0, at(3, 1), 3);
+        first.come(1, at(1, 1), 3);
+        check.due("17: of 1 past 0", first.way(1, at(4, 1)), -1);
+        check.due("17: of 1 to 0, the first", first.way(1, at(3, 1)), 2);
         lane.set(at(4, 1), 3);
         check.due("17: to one in the water", lane.way(0, at(4, 1)), 4);
         lane.dig(1, 2, 6, 1);
@@ -148,6 +157,15 @@ public final class PlansTest {
         check.due("17: with floor in it", warren.way(0, at(10, 4)), 12);
         warren.set(at(7, 4), 1);
         check.due("17: with a wall in it", warren.way(0, at(10, 4)), -1);
+        Warren lake = hall();
+        for (int cell = 0; cell < 160; cell++) {
+            if (lake.cell(cell) == 0) {
+                lake.set(cell, 3);
+            }
+        }
+        lake.come(1, at(1, 1), 20);
+        check.due("17: over a MAP of water", lake.way(0, at(14, 8)), 2 * (13 + 7));
+        check.due("17: to its rim", lake.way(0, at(15, 8)), -1);
     }
 
     private static void promise18WorthOfHits() {
