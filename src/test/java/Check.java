@@ -27,7 +27,7 @@ final class Check {
         try {
             run.run();
         } catch (RuntimeException e) {
-            got = e.getClass().getName();
+            got = thrownBy(e);
         }
         told(call + " throws", got.equals(due.getName()), got, due.getName());
         told(call + " changes nothing", fingerprint(warren) == before, "another object", "the same");
@@ -38,6 +38,13 @@ final class Check {
         if (wrong != 0) {
             System.exit(1);
         }
+    }
+
+    /** The class has to throw for itself, not leave that to a list or an array. */
+    private static String thrownBy(RuntimeException e) {
+        StackTraceElement[] frames = e.getStackTrace();
+        boolean isOwn = frames.length > 0 && frames[0].getClassName().equals("Warren");
+        return e.getClass().getName() + (isOwn ? "" : " from elsewhere");
     }
 
     /** All that can be asked without knowing what the saved games hold. */
