@@ -9,18 +9,7 @@ public final class BeingsTest {
     private static final Check check = new Check("BeingsTest");
 
     public static void main(String[] args) {
-        promise8Come();
-        promise8ComesAtTheTimeOfTheTurn();
-        promise8ComeRefuses();
-        promise9Become();
-        promise9BecomeRefuses();
-        promise10Lay();
-        promise10LayRefuses();
-        promise11Of();
-        promise11OfADeadOne();
-        promise12Effect();
-        promise13Many();
-        check.end();
+        Cases.run(BeingsTest.class, check, 8, 13);
     }
 
     private static int at(int x, int y) {
@@ -39,7 +28,7 @@ public final class BeingsTest {
         }
     }
 
-    private static void promise8Come() {
+    static void promise8Come() {
         Warren warren = hall();
         warren.set(at(3, 3), 3);
         check.due("8: the first come", warren.come(0, at(1, 1), 20), 0);
@@ -55,7 +44,7 @@ public final class BeingsTest {
         check.due("8: on(17)", warren.on(17), 0);
     }
 
-    private static void promise8ComesAtTheTimeOfTheTurn() {
+    static void promise8ComesAtTheTimeOfTheTurn() {
         Warren warren = hall();
         warren.come(0, at(1, 1), 20);
         warren.act(0);
@@ -77,7 +66,7 @@ public final class BeingsTest {
         check.due("8: TIME if all are dead", dead.of(1, 8), 0);
     }
 
-    private static void promise8ComeRefuses() {
+    static void promise8ComeRefuses() {
         Warren warren = hall();
         warren.set(at(4, 4), 2);
         warren.come(0, at(1, 1), 20);
@@ -108,7 +97,7 @@ public final class BeingsTest {
         check.refused("8: an 11th with no life", warren, ARGUMENT, () -> warren.come(0, at(9, 8), 0));
     }
 
-    private static void promise9Become() {
+    static void promise9Become() {
         Warren warren = hall();
         warren.come(0, at(1, 1), 20);
         warren.come(1, at(3, 1), 20);
@@ -130,7 +119,7 @@ public final class BeingsTest {
         check.due("9: FORCE of a dead one", warren.of(1, 4), 9);
     }
 
-    private static void promise9BecomeRefuses() {
+    static void promise9BecomeRefuses() {
         Warren warren = hall();
         warren.come(0, at(1, 1), 20);
         for (int being : new int[] {LOW, -1, 1, 10, HIGH}) {
@@ -146,7 +135,7 @@ public final class BeingsTest {
         }
     }
 
-    private static void promise10Lay() {
+    static void promise10Lay() {
         Warren warren = hall();
         warren.come(0, at(1, 1), 20);
         warren.come(1, at(3, 1), 20);
@@ -165,7 +154,7 @@ public final class BeingsTest {
         check.due("10: lay(1, 0, 1, 1)", warren.lay(1, 0, 1, 1), 9);
     }
 
-    private static void promise10LayRefuses() {
+    static void promise10LayRefuses() {
         Warren warren = hall();
         warren.come(0, at(1, 1), 20);
         warren.come(1, at(3, 1), 1);
@@ -194,7 +183,7 @@ public final class BeingsTest {
         }
     }
 
-    private static void promise11Of() {
+    static void promise11Of() {
         Warren warren = hall();
         warren.come(1, at(1, 1), 30);
         warren.become(0, 6, 7, 3);
@@ -225,7 +214,7 @@ public final class BeingsTest {
         }
     }
 
-    private static void promise11OfADeadOne() {
+    static void promise11OfADeadOne() {
         Warren warren = hall();
         warren.come(0, at(5, 5), 30);
         warren.come(1, at(6, 5), 4);
@@ -242,7 +231,7 @@ public final class BeingsTest {
         check.due("11: TIME of a dead one", warren.of(1, 8), 0);
     }
 
-    private static void promise12Effect() {
+    static void promise12Effect() {
         Warren warren = hall();
         warren.come(0, at(5, 5), 30);
         warren.lay(0, 2, 4, 3);
@@ -275,7 +264,7 @@ public final class BeingsTest {
         }
     }
 
-    private static void promise13Many() {
+    static void promise13Many() {
         Warren warren = new Warren();
         warren.dig(1, 1, 3, 1);
         dueMany("13: empty", warren, 0, 0, 0, -1, 0, 0, 0, 0, 0);

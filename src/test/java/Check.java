@@ -1,11 +1,28 @@
+import java.util.function.Consumer;
+import java.util.function.Supplier;
+
 /** Counts answers that are not the ones that are due, and tells each of them. */
 final class Check {
     private final String name;
+    private String current = "";
     private int asked = 0;
     private int wrong = 0;
 
     Check(String name) {
         this.name = name;
+    }
+
+    /** What is asked from now on belongs to this case. */
+    void begin(String caseName) {
+        current = caseName;
+    }
+
+    int asked() {
+        return asked;
+    }
+
+    int wrong() {
+        return wrong;
     }
 
     void due(String call, long got, long want) {
@@ -17,20 +34,53 @@ final class Check {
     }
 
     void dueMean(String call, double got, double want) {
-        told(call, got == want, Double.toString(got), Double.toString(want));
+        told(call, Double.compare(got, want) == 0, Double.toString(got), Double.toString(want));
     }
 
-    /** The call throws just that, and leaves the object as it was. */
+    /** The call throws just that, and nothing that the checksum tells is another one then. */
     void refused(String call, Warren warren, Class<?> due, Runnable run) {
-        long before = fingerprint(warren);
-        String got = "nothing";
-        try {
-            run.run();
-        } catch (RuntimeException e) {
-            got = thrownBy(e);
-        }
+        long before = warren.digest();
+        String got = thrownBy(run);
         told(call + " throws", got.equals(due.getName()), got, due.getName());
-        told(call + " changes nothing", fingerprint(warren) == before, "another object", "the same");
+        told(call + " changes nothing", warren.digest() == before, "another object", "the same");
+    }
+
+    /** The call throws just that, and leaves a new object in the given state as one that was never called. */
+    void refused(String call, Supplier<Warren> given, Class<?> due, Consumer<Warren> run) {
+        Warren warren = given.get();
+        String got = thrownBy(() -> run.accept(warren));
+        told(in(given) + call + " throws", got.equals(due.getName()), got, due.getName());
+        same(in(given) + call + " changes nothing", warren, given.get());
+    }
+
+    /** The calls leave a new object in the given state as one that was never called. */
+    void leaves(String calls, Supplier<Warren> given, Consumer<Warren> run) {
+        Warren warren = given.get();
+        run.accept(warren);
+        same(in(given) + calls + " changes nothing", warren, given.get());
+    }
+
+    /** All that can be asked, what the saved games hold, too; it takes 331 calls at most, and loads the last game. */
+    void same(String what, Warren got, Warren want) {
+        told(what, got.digest() == want.digest(), "another digest()", "the same");
+        for (int side = 0; side < 2; side++) {
+            for (int cell = 0; cell < 160; cell++) {
+                if (got.knows(side, cell) != want.knows(side, cell)) {
+                    told(what, false, "another knows(" + side + ", " + cell + ")", "the same");
+                }
+            }
+        }
+        for (int game = 0; game < Math.min(got.many(8), want.many(8)); game++) {
+            got.load(game);
+            want.load(game);
+            told(what + ", nor the game " + game, got.digest() == want.digest(), "another digest()", "the same");
+        }
+    }
+
+    void fails(String what) {
+        asked++;
+        wrong++;
+        System.out.println(name + " " + current + ": " + what);
     }
 
     void end() {
@@ -40,30 +90,27 @@ final class Check {
         }
     }
 
-    /** The class has to throw for itself, not leave that to a list or an array. */
-    private static String thrownBy(RuntimeException e) {
-        StackTraceElement[] frames = e.getStackTrace();
-        boolean isOwn = frames.length > 0 && frames[0].getClassName().equals("Warren");
-        return e.getClass().getName() + (isOwn ? "" : " from elsewhere");
+    private static String in(Supplier<Warren> given) {
+        return given instanceof Given ? given + ": " : "";
     }
 
-    /** All that can be asked without knowing what the saved games hold. */
-    static long fingerprint(Warren warren) {
-        long d = warren.digest();
-        for (int side = 0; side < 2; side++) {
-            for (int cell = 0; cell < 160; cell++) {
-                d = d * 31 + (warren.knows(side, cell) ? 1 : 0);
-                d = d * 31 + warren.on(cell);
-            }
+    /** The class has to throw for itself, not leave that to a list or an array. */
+    private static String thrownBy(Runnable run) {
+        try {
+            run.run();
+        } catch (RuntimeException e) {
+            StackTraceElement[] frames = e.getStackTrace();
+            boolean isOwn = frames.length > 0 && frames[0].getClassName().equals("Warren");
+            return e.getClass().getName() + (isOwn ? "" : " from elsewhere");
         }
-        return d;
+        return "nothing";
     }
 
     private void told(String call, boolean isRight, String got, String want) {
         asked++;
         if (!isRight) {
             wrong++;
-            System.out.println(name + ": " + call + " answered " + got + ", due is " + want);
+            System.out.println(name + " " + current + ": " + call + " answered " + got + ", due is " + want);
         }
     }
 }

@@ -8,18 +8,7 @@ public final class MapTest {
     private static final Check check = new Check("MapTest");
 
     public static void main(String[] args) {
-        promise1NewObject();
-        promise2Dig();
-        promise2DigRefuses();
-        promise3Set();
-        promise3SetRefuses();
-        promise4Cell();
-        promise5On();
-        promise6Sees();
-        promise6SeesAlongTheLine();
-        promise7Knows();
-        promise7KnowsBehindActions();
-        check.end();
+        Cases.run(MapTest.class, check, 1, 7);
     }
 
     private static int at(int x, int y) {
@@ -32,7 +21,7 @@ public final class MapTest {
         return warren;
     }
 
-    private static void promise1NewObject() {
+    static void promise1NewObject() {
         Warren warren = new Warren();
         for (int cell = 0; cell < 160; cell++) {
             check.due("1: cell(" + cell + ") of a new one", warren.cell(cell), 1);
@@ -50,7 +39,7 @@ public final class MapTest {
         check.due("1: cell(17), another one dug", warren.cell(17), 1);
     }
 
-    private static void promise2Dig() {
+    static void promise2Dig() {
         Warren warren = new Warren();
         check.due("2: dig(3, 2, 1, 1)", warren.dig(3, 2, 1, 1), 1);
         for (int cell = 0; cell < 160; cell++) {
@@ -75,7 +64,7 @@ public final class MapTest {
         check.due("2: dig(15, 0, 1, 10)", warren.dig(15, 0, 1, 10), 0);
     }
 
-    private static void promise2DigRefuses() {
+    static void promise2DigRefuses() {
         int[][] wrong = {
             {-1, 1, 1, 1}, {16, 1, 1, 1}, {1, -1, 1, 1}, {1, 10, 1, 1}, {1, 1, 0, 1}, {1, 1, 16, 1}, {1, 1, 1, 0},
             {1, 1, 1, 10}, {0, 0, 17, 10}, {0, 0, 16, 11}, {15, 9, 2, 1}, {15, 9, 1, 2}, {1, 1, -1, -1},
@@ -90,7 +79,7 @@ public final class MapTest {
         }
     }
 
-    private static void promise3Set() {
+    static void promise3Set() {
         Warren warren = new Warren();
         int[] kinds = {0, 3, 2, 1, 1, 2, 3, 0, 0};
         int before = 1;
@@ -112,7 +101,7 @@ public final class MapTest {
         check.due("3: set(17, 1) where one died", warren.set(17, 1), 2);
     }
 
-    private static void promise3SetRefuses() {
+    static void promise3SetRefuses() {
         Warren warren = hall();
         warren.come(1, 17, 5);
         for (int cell : ODD) {
@@ -132,7 +121,7 @@ public final class MapTest {
         check.refused("3: set(17, 2) under a being", warren, STATE, () -> warren.set(17, 2));
     }
 
-    private static void promise4Cell() {
+    static void promise4Cell() {
         Warren warren = hall();
         warren.set(20, 3);
         warren.set(21, 2);
@@ -146,7 +135,7 @@ public final class MapTest {
         }
     }
 
-    private static void promise5On() {
+    static void promise5On() {
         Warren warren = hall();
         warren.come(0, 17, 5);
         warren.come(1, 142, 6);
@@ -171,7 +160,7 @@ public final class MapTest {
         check.due("6: sees(" + other + ", " + one + ")", warren.sees(other, one), want);
     }
 
-    private static void promise6Sees() {
+    static void promise6Sees() {
         Warren warren = hall();
         bothWays(warren, at(1, 1), at(8, 1), true);
         bothWays(warren, at(1, 1), at(9, 1), false);
@@ -206,7 +195,7 @@ public final class MapTest {
     }
 
     /** Of two nearest numbers the greater one is taken: the line bends to the east and to the south. */
-    private static void promise6SeesAlongTheLine() {
+    static void promise6SeesAlongTheLine() {
         int[][] lines = {
             // from, to, then the columns and rows between them
             {3, 3, 5, 4, 4, 4},
@@ -241,7 +230,7 @@ public final class MapTest {
         }
     }
 
-    private static void promise7Knows() {
+    static void promise7Knows() {
         Warren warren = new Warren();
         warren.dig(1, 1, 3, 3);
         warren.set(at(4, 2), 2);
@@ -270,7 +259,7 @@ public final class MapTest {
         }
     }
 
-    private static void promise7KnowsBehindActions() {
+    static void promise7KnowsBehindActions() {
         Warren warren = new Warren();
         warren.dig(1, 1, 14, 1);
         warren.come(0, at(1, 1), 9);

@@ -9,20 +9,7 @@ public final class PlansTest {
     private static final Check check = new Check("PlansTest");
 
     public static void main(String[] args) {
-        promise16Target();
-        promise17Way();
-        promise17WayPastBeings();
-        promise17WayAroundWater();
-        promise18WorthOfHits();
-        promise18WorthOfGoing();
-        promise18WorthWithoutWays();
-        promise18WorthIfAfraid();
-        promise18WorthOfMagic();
-        promise18WorthOfOneThatIsDead();
-        promise18WorthToThePrey();
-        promise19Plan();
-        promises16To19Refuse();
-        check.end();
+        Cases.run(PlansTest.class, check, 16, 19);
     }
 
     private static int at(int x, int y) {
@@ -42,7 +29,7 @@ public final class PlansTest {
         }
     }
 
-    private static void promise16Target() {
+    static void promise16Target() {
         Warren warren = hall();
         warren.come(0, at(2, 2), 20);
         check.due("16: no foe", warren.target(0), -1);
@@ -76,7 +63,7 @@ public final class PlansTest {
         check.due("16: which is the prey, too", dead.worth(2, 1), 14);
     }
 
-    private static void promise17Way() {
+    static void promise17Way() {
         Warren warren = hall();
         warren.come(0, at(2, 2), 20);
         check.due("17: to its own", warren.way(0, at(2, 2)), 0);
@@ -103,7 +90,7 @@ public final class PlansTest {
         check.due("17: through water", rooms.way(0, at(5, 1)), 5);
     }
 
-    private static void promise17WayPastBeings() {
+    static void promise17WayPastBeings() {
         Warren lane = new Warren();
         lane.dig(1, 1, 6, 1);
         lane.come(0, at(1, 1), 3);
@@ -132,7 +119,7 @@ public final class PlansTest {
         check.due("17: where one died", lane.way(1, at(1, 1)), 3);
     }
 
-    private static void promise17WayAroundWater() {
+    static void promise17WayAroundWater() {
         // Straight through takes 2 for each of 6 CELLS, and 1; around it there are 2 CELLS more.
         Warren warren = hall();
         for (int x = 4; x <= 9; x++) {
@@ -168,7 +155,7 @@ public final class PlansTest {
         check.due("17: to its rim", lake.way(0, at(15, 8)), -1);
     }
 
-    private static void promise18WorthOfHits() {
+    static void promise18WorthOfHits() {
         Warren warren = hall();
         warren.come(0, at(5, 5), 20);
         warren.come(1, at(5, 4), 20);
@@ -189,7 +176,7 @@ public final class PlansTest {
         check.due("18: of another one", warren.worth(1, 3), 20 + 3 * 1);
     }
 
-    private static void promise18WorthOfGoing() {
+    static void promise18WorthOfGoing() {
         Warren warren = hall();
         warren.come(0, at(5, 5), 20);
         warren.come(1, at(8, 5), 20);
@@ -211,7 +198,7 @@ public final class PlansTest {
         dueWorths("in the water of a lane", warren, 0, 1, -1000, 14, -1000, 10 - 4 * 2);
     }
 
-    private static void promise18WorthWithoutWays() {
+    static void promise18WorthWithoutWays() {
         Warren alone = hall();
         alone.come(0, at(5, 5), 20);
         alone.set(at(5, 4), 2);
@@ -228,7 +215,7 @@ public final class PlansTest {
         dueWorths("behind another one", apart, 1, 1, 0, 0, 0, 0, 14, 0, 0);
     }
 
-    private static void promise18WorthIfAfraid() {
+    static void promise18WorthIfAfraid() {
         Warren warren = hall();
         warren.come(0, at(5, 5), 30);
         warren.come(1, at(8, 5), 20);
@@ -249,7 +236,7 @@ public final class PlansTest {
         check.due("18: a hit, afraid", warren.worth(0, 3), 29);
     }
 
-    private static void promise18WorthOfMagic() {
+    static void promise18WorthOfMagic() {
         Warren warren = hall();
         warren.come(0, at(5, 5), 20);
         warren.come(1, at(8, 5), 20);
@@ -288,7 +275,7 @@ public final class PlansTest {
         }
     }
 
-    private static void promise18WorthOfOneThatIsDead() {
+    static void promise18WorthOfOneThatIsDead() {
         Warren warren = hall();
         warren.come(0, at(5, 5), 3);
         warren.come(1, at(6, 5), 20);
@@ -298,7 +285,7 @@ public final class PlansTest {
         dueWorths("where it was", warren, 1, 1, 0, 0, 0, 0, -1000, 0, 0);
     }
 
-    private static void promise18WorthToThePrey() {
+    static void promise18WorthToThePrey() {
         // The one with the smallest number is the prey of whoever sees none.
         Warren warren = hall();
         warren.dig(1, 1, 14, 8);
@@ -323,7 +310,7 @@ public final class PlansTest {
         dueWorths("to the target", warren, 0, 1, -1000, 14, 10 + 4 * (2 - 3), 6, 14, 0, 0);
     }
 
-    private static void promise19Plan() {
+    static void promise19Plan() {
         Warren warren = hall();
         warren.come(0, at(5, 5), 20);
         check.due("19: alone", warren.plan(0), 0);
@@ -361,23 +348,46 @@ public final class PlansTest {
         check.due("19: of one that has no foe more", dead.plan(1), 0);
     }
 
-    private static void promises16To19Refuse() {
+    private static Warren two() {
         Warren warren = hall();
         warren.come(0, at(2, 2), 20);
         warren.come(1, at(4, 2), 20);
+        return warren;
+    }
+
+    static void promise16Refuses() {
+        Warren warren = two();
         for (int being : NO_BEINGS) {
-            check.refused("16: target(" + being + ")", warren, INDEX, () -> warren.target(being));
-            check.refused("17: way(" + being + ", 17)", warren, INDEX, () -> warren.way(being, 17));
-            check.refused("17: way(" + being + ", 160)", warren, INDEX, () -> warren.way(being, 160));
-            check.refused("18: worth(" + being + ", 0)", warren, INDEX, () -> warren.worth(being, 0));
-            check.refused("18: worth(" + being + ", 8)", warren, INDEX, () -> warren.worth(being, 8));
-            check.refused("19: plan(" + being + ")", warren, INDEX, () -> warren.plan(being));
+            check.refused("target(" + being + ")", warren, INDEX, () -> warren.target(being));
+        }
+    }
+
+    static void promise17Refuses() {
+        Warren warren = two();
+        for (int being : NO_BEINGS) {
+            check.refused("way(" + being + ", 17)", warren, INDEX, () -> warren.way(being, 17));
+            check.refused("way(" + being + ", 160)", warren, INDEX, () -> warren.way(being, 160));
         }
         for (int cell : new int[] {LOW, -1, 160, HIGH}) {
-            check.refused("17: way(0, " + cell + ")", warren, INDEX, () -> warren.way(0, cell));
+            check.refused("way(0, " + cell + ")", warren, INDEX, () -> warren.way(0, cell));
+        }
+    }
+
+    static void promise18Refuses() {
+        Warren warren = two();
+        for (int being : NO_BEINGS) {
+            check.refused("worth(" + being + ", 0)", warren, INDEX, () -> warren.worth(being, 0));
+            check.refused("worth(" + being + ", 8)", warren, INDEX, () -> warren.worth(being, 8));
         }
         for (int action : new int[] {LOW, -1, 8, HIGH}) {
-            check.refused("18: worth(0, " + action + ")", warren, ARGUMENT, () -> warren.worth(0, action));
+            check.refused("worth(0, " + action + ")", warren, ARGUMENT, () -> warren.worth(0, action));
+        }
+    }
+
+    static void promise19Refuses() {
+        Warren warren = two();
+        for (int being : NO_BEINGS) {
+            check.refused("plan(" + being + ")", warren, INDEX, () -> warren.plan(being));
         }
     }
 }

@@ -6,13 +6,7 @@ public final class SavedGamesTest {
     private static final Check check = new Check("SavedGamesTest");
 
     public static void main(String[] args) {
-        promise20Save();
-        promise21Load();
-        promise21BeingsThatCameLater();
-        promise21SavedGamesStay();
-        promise21LoadOfTheDead();
-        promise21LoadRefuses();
-        check.end();
+        Cases.run(SavedGamesTest.class, check, 20, 21);
     }
 
     private static int at(int x, int y) {
@@ -25,13 +19,13 @@ public final class SavedGamesTest {
         return warren;
     }
 
-    /** The fingerprint but for how many games are saved, which load() leaves as it is. */
+    /** The checksum but for how many games are saved, which load() leaves as it is. */
     private static long withGames(Warren warren, int games, Warren like) {
         for (int i = like.many(8); i < games; i++) {
             like.save();
         }
         check.due("20: as many games", warren.many(8), like.many(8));
-        return Check.fingerprint(like);
+        return like.digest();
     }
 
     private static Warren started() {
@@ -45,13 +39,13 @@ public final class SavedGamesTest {
         return warren;
     }
 
-    private static void promise20Save() {
+    static void promise20Save() {
         Warren warren = started();
         for (int game = 0; game < 5; game++) {
             check.due("20: many(8)", warren.many(8), game);
             check.due("20: save()", warren.save(), game);
             long want = withGames(warren, game + 1, started());
-            check.due("20: save() changes nothing else", Check.fingerprint(warren), want);
+            check.due("20: save() changes nothing else", warren.digest(), want);
         }
         check.due("20: many(8)", warren.many(8), 5);
         check.refused("20: a 6th save()", warren, STATE, warren::save);
@@ -60,13 +54,13 @@ public final class SavedGamesTest {
         check.due("20: an empty game", new Warren().save(), 0);
     }
 
-    private static void promise21Load() {
+    static void promise21Load() {
         Warren warren = started();
         int actions = warren.many(4);
         int hits = warren.many(5);
         check.due("21: there were hits", hits > 0, true);
         warren.save();
-        long due = Check.fingerprint(warren);
+        long due = warren.digest();
         warren.dig(6, 6, 2, 1);
         warren.set(at(2, 2), 1);
         warren.set(at(3, 2), 2);
@@ -80,22 +74,22 @@ public final class SavedGamesTest {
         check.due("21: ACTIONS then", warren.many(4) > actions, true);
         check.due("21: KNOWN then", warren.knows(0, at(14, 9)), true);
         check.due("21: load(0)", warren.load(0), 2);
-        check.due("21: all as it was", Check.fingerprint(warren), due);
+        check.due("21: all as it was", warren.digest(), due);
         check.due("21: ACTIONS as they were", warren.many(4), actions);
         check.due("21: HITS as they were", warren.many(5), hits);
         check.due("21: KNOWN as it was", warren.knows(0, at(14, 9)), false);
         check.due("21: load(0) at once", warren.load(0), 2);
-        check.due("21: all as it was still", Check.fingerprint(warren), due);
+        check.due("21: all as it was still", warren.digest(), due);
         Warren other = started();
         other.save();
         warren.follow(9);
         other.follow(9);
-        check.due("21: it goes on alike", Check.fingerprint(warren), Check.fingerprint(other));
+        check.due("21: it goes on alike", warren.digest(), other.digest());
         warren.load(0);
-        check.due("21: loads it once more", Check.fingerprint(warren), due);
+        check.due("21: loads it once more", warren.digest(), due);
     }
 
-    private static void promise21BeingsThatCameLater() {
+    static void promise21BeingsThatCameLater() {
         Warren warren = hall();
         warren.come(0, at(4, 4), 20);
         warren.save();
@@ -129,7 +123,7 @@ public final class SavedGamesTest {
         check.refused("21: an 11th", warren, STATE, () -> warren.come(0, at(12, 3), 5));
     }
 
-    private static void promise21SavedGamesStay() {
+    static void promise21SavedGamesStay() {
         Warren warren = hall();
         long[] due = new long[5];
         warren.save();
@@ -144,7 +138,7 @@ public final class SavedGamesTest {
         int[] alive = {0, 1, 2, 2, 2};
         for (int game = 0; game < 5; game++) {
             check.due("21: load(" + game + ")", warren.load(game), alive[game]);
-            due[game] = Check.fingerprint(warren);
+            due[game] = warren.digest();
             check.due("21: many(8)", warren.many(8), 5);
             warren.set(at(4, 4), 1 + game % 3);
             warren.follow(3);
@@ -152,16 +146,16 @@ public final class SavedGamesTest {
         check.due("21: games 3 and 4 are not the same", due[3] != due[4], true);
         for (int game = 4; game >= 0; game--) {
             warren.load(game);
-            check.due("21: game " + game + " stays", Check.fingerprint(warren), due[game]);
+            check.due("21: game " + game + " stays", warren.digest(), due[game]);
         }
         warren.load(2);
         warren.follow(5);
-        check.due("21: the game 3 comes of the game 2", Check.fingerprint(warren), due[3]);
+        check.due("21: the game 3 comes of the game 2", warren.digest(), due[3]);
         warren.follow(5);
-        check.due("21: and the game 4 of that", Check.fingerprint(warren), due[4]);
+        check.due("21: and the game 4 of that", warren.digest(), due[4]);
     }
 
-    private static void promise21LoadOfTheDead() {
+    static void promise21LoadOfTheDead() {
         Warren warren = hall();
         warren.come(0, at(2, 2), 3);
         warren.come(1, at(3, 2), 9);
@@ -177,7 +171,7 @@ public final class SavedGamesTest {
         check.due("21: its POISON", warren.effect(0, 0, true), 1);
     }
 
-    private static void promise21LoadRefuses() {
+    static void promise21LoadRefuses() {
         Warren warren = started();
         check.refused("21: load(0) without one", warren, INDEX, () -> warren.load(0));
         warren.save();

@@ -8,20 +8,7 @@ public final class TurnsTest {
     private static final Check check = new Check("TurnsTest");
 
     public static void main(String[] args) {
-        promise14WhoseTurn();
-        promise14Wait();
-        promise14Go();
-        promise14Hit();
-        promise14Door();
-        promise14Magic();
-        promise14PoisonAndRest();
-        promise14Time();
-        promise14DeadByPoison();
-        promise14Refuses();
-        promise15Follow();
-        promise15FollowEnds();
-        promise15Refuses();
-        check.end();
+        Cases.run(TurnsTest.class, check, 14, 15);
     }
 
     private static int at(int x, int y) {
@@ -34,7 +21,7 @@ public final class TurnsTest {
         return warren;
     }
 
-    private static void promise14WhoseTurn() {
+    static void promise14WhoseTurn() {
         Warren warren = hall();
         warren.come(0, at(1, 1), 20);
         warren.come(1, at(14, 8), 20);
@@ -50,7 +37,7 @@ public final class TurnsTest {
         }
     }
 
-    private static void promise14Wait() {
+    static void promise14Wait() {
         Warren warren = hall();
         warren.come(0, at(5, 5), 20);
         for (int mana = 3; mana < 12; mana++) {
@@ -62,7 +49,7 @@ public final class TurnsTest {
         check.due("14: ACTIONS", warren.many(4), 9);
     }
 
-    private static void promise14Go() {
+    static void promise14Go() {
         Warren warren = hall();
         warren.set(at(6, 6), 3);
         warren.come(0, at(5, 5), 20);
@@ -88,7 +75,7 @@ public final class TurnsTest {
         check.refused("14: go to the rim, south", corner, STATE, () -> corner.act(3));
     }
 
-    private static void promise14Hit() {
+    static void promise14Hit() {
         Warren warren = hall();
         warren.come(0, at(5, 5), 20);
         warren.come(1, at(5, 4), 20);
@@ -116,7 +103,7 @@ public final class TurnsTest {
         check.due("14: dead by that", just.of(1, 1), -1);
     }
 
-    private static void promise14Door() {
+    static void promise14Door() {
         Warren warren = hall();
         warren.set(at(5, 6), 2);
         warren.come(0, at(5, 5), 20);
@@ -133,7 +120,7 @@ public final class TurnsTest {
         check.due("14: " + when + ", turns", warren.effect(being, effect, true), turns);
     }
 
-    private static void promise14Magic() {
+    static void promise14Magic() {
         Warren warren = hall();
         warren.come(0, at(5, 5), 20);
         warren.come(1, at(8, 5), 20);
@@ -171,7 +158,7 @@ public final class TurnsTest {
         dueEffect("POISON is 9 at most, and 3 the more turns", blind, 2, 0, 9, 3);
     }
 
-    private static void promise14PoisonAndRest() {
+    static void promise14PoisonAndRest() {
         Warren warren = hall();
         warren.come(0, at(5, 5), 20);
         warren.lay(0, 0, 5, 2);
@@ -193,7 +180,7 @@ public final class TurnsTest {
         check.due("14: REST is not ahead of POISON", warren.of(0, 2), 19);
     }
 
-    private static void promise14Time() {
+    static void promise14Time() {
         int[] speeds = {1, 2, 3, 4};
         int[] times = {12, 6, 4, 3};
         for (int i = 0; i < 4; i++) {
@@ -212,7 +199,7 @@ public final class TurnsTest {
         }
     }
 
-    private static void promise14DeadByPoison() {
+    static void promise14DeadByPoison() {
         Warren warren = hall();
         warren.come(0, at(5, 5), 4);
         warren.come(1, at(6, 5), 20);
@@ -236,7 +223,7 @@ public final class TurnsTest {
         check.refused("14: no turn", less, STATE, () -> less.act(0));
     }
 
-    private static void promise14Refuses() {
+    static void promise14Refuses() {
         Warren empty = new Warren();
         Warren warren = hall();
         warren.come(0, at(1, 1), 5);
@@ -252,7 +239,7 @@ public final class TurnsTest {
         check.refused("14: act(4) at a wall", warren, STATE, () -> warren.act(4));
     }
 
-    private static void promise15Follow() {
+    static void promise15Follow() {
         Warren warren = hall();
         warren.come(0, at(2, 2), 20);
         warren.come(1, at(8, 2), 20);
@@ -280,11 +267,11 @@ public final class TurnsTest {
             for (int k = 0; k <= i; k++) {
                 many.follow(1);
             }
-            check.due("15: one by one is the same", Check.fingerprint(many), Check.fingerprint(one));
+            check.due("15: one by one is the same", many.digest(), one.digest());
         }
     }
 
-    private static void promise15FollowEnds() {
+    static void promise15FollowEnds() {
         Warren warren = hall();
         check.due("15: nobody", warren.follow(5), 0);
         warren.come(0, at(5, 5), 20);
@@ -312,7 +299,7 @@ public final class TurnsTest {
         check.due("15: with more MANA", shut.of(0, 7), 9);
     }
 
-    private static void promise15Refuses() {
+    static void promise15Refuses() {
         Warren warren = hall();
         warren.come(0, at(2, 2), 20);
         warren.come(1, at(8, 2), 20);

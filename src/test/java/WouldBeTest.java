@@ -8,15 +8,7 @@ public final class WouldBeTest {
     private static final Check check = new Check("WouldBeTest");
 
     public static void main(String[] args) {
-        promise22Hit();
-        promise22HitRefuses();
-        promise23Ahead();
-        promise23AheadRefuses();
-        promise24Danger();
-        promise25MeanLife();
-        promise26Digest();
-        promise26DigestAfterEachAction();
-        check.end();
+        Cases.run(WouldBeTest.class, check, 22, 26);
     }
 
     private static int at(int x, int y) {
@@ -29,7 +21,7 @@ public final class WouldBeTest {
         return warren;
     }
 
-    private static void promise22Hit() {
+    static void promise22Hit() {
         Warren warren = hall();
         warren.come(0, at(2, 2), 2);
         warren.come(1, at(14, 8), 20);
@@ -60,7 +52,7 @@ public final class WouldBeTest {
         check.due("22: of a dead one on itself", warren.hit(0, 0), 0);
     }
 
-    private static void promise22HitRefuses() {
+    static void promise22HitRefuses() {
         Warren warren = hall();
         warren.come(0, at(2, 2), 20);
         for (int being : new int[] {LOW, -1, 1, 10, HIGH}) {
@@ -85,13 +77,13 @@ public final class WouldBeTest {
         return warren;
     }
 
-    private static void promise23Ahead() {
+    static void promise23Ahead() {
         for (int turns = 1; turns <= 40; turns++) {
             Warren warren = fight();
             Warren other = fight();
-            long before = Check.fingerprint(warren);
+            long before = warren.digest();
             int got = warren.ahead(turns);
-            check.due("23: ahead(" + turns + ") changes nothing", Check.fingerprint(warren), before);
+            check.due("23: ahead(" + turns + ") changes nothing", warren.digest(), before);
             other.follow(turns);
             int want = 0;
             for (int being = 0; being < 4; being++) {
@@ -100,7 +92,7 @@ public final class WouldBeTest {
             check.due("23: ahead(" + turns + ")", got, want);
             check.due("23: ahead(" + turns + ") again", warren.ahead(turns), want);
             warren.follow(turns);
-            check.due("23: follow() behind ahead()", Check.fingerprint(warren), Check.fingerprint(other));
+            check.due("23: follow() behind ahead()", warren.digest(), other.digest());
         }
         Warren still = hall();
         check.due("23: nobody", still.ahead(40), 0);
@@ -113,14 +105,14 @@ public final class WouldBeTest {
         check.due("23: LIFE is as it was", still.of(0, 2), 7);
     }
 
-    private static void promise23AheadRefuses() {
+    static void promise23AheadRefuses() {
         Warren warren = fight();
         for (int turns : new int[] {LOW, -1, 0, 41, HIGH}) {
             check.refused("23: ahead(" + turns + ")", warren, ARGUMENT, () -> warren.ahead(turns));
         }
     }
 
-    private static void promise24Danger() {
+    static void promise24Danger() {
         Warren warren = hall();
         check.due("24: nobody", warren.danger(0, 17), 0);
         warren.come(0, at(2, 2), 20);
@@ -152,7 +144,7 @@ public final class WouldBeTest {
         }
     }
 
-    private static void promise25MeanLife() {
+    static void promise25MeanLife() {
         Warren warren = hall();
         check.dueMean("25: nobody", warren.meanLife(), 0.0);
         warren.come(0, at(2, 2), 7);
@@ -200,7 +192,7 @@ public final class WouldBeTest {
         return d;
     }
 
-    private static void promise26Digest() {
+    static void promise26Digest() {
         Warren warren = new Warren();
         check.due("26: a new one", warren.digest(), digestOf(warren));
         warren.dig(1, 1, 14, 8);
@@ -215,7 +207,7 @@ public final class WouldBeTest {
         check.due("26: twice", warren.digest(), digestOf(warren));
     }
 
-    private static void promise26DigestAfterEachAction() {
+    static void promise26DigestAfterEachAction() {
         Warren warren = fight();
         warren.save();
         check.due("26: at first", warren.digest(), digestOf(warren));
