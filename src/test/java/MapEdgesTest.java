@@ -105,6 +105,9 @@ public final class MapEdgesTest {
         first.save();
         first.follow(40);
         check.same("a new one beside another one", second, new Warren());
+        for (int side = 0; side < 2; side++) {
+            check.sameKnown("a new one beside another one", side, second, new Warren());
+        }
     }
 
     // ---- 2: dig

@@ -1,5 +1,3 @@
-import java.util.Arrays;
-
 /** Promises 16 to 19, plans: each sentence that names an edge, in a case of its own. */
 public final class PlansEdgesTest {
     private static final Class<?> ARGUMENT = IllegalArgumentException.class;
@@ -724,24 +722,29 @@ public final class PlansEdgesTest {
 
     static void promise19TheGreatestWorthOfSeveralTheSmallestNumber() {
         for (Given given : new Given[] {Given.ONE_SIDE, Given.PAIR, Given.SIDE_0_DEAD, Given.FULL}) {
-            Warren warren = given.get();
-            for (int turn = 0; turn < 25; turn++) {
-                for (int being = turn % 3; being < given.beings; being += 3) {
+            for (int turns = 1; turns <= 25; turns++) {
+                Warren warren = given.get();
+                warren.follow(turns);
+                for (int being = 0; being < given.beings; being++) {
                     if (warren.of(being, 2) > 0) {
-                        int[] worths = new int[8];
-                        Warren asked = warren;
-                        int who = being;
-                        Arrays.setAll(worths, action -> asked.worth(who, action));
-                        int due = 0;
-                        for (int action = 1; action < 8; action++) {
-                            due = worths[action] > worths[due] ? action : due;
-                        }
-                        check.due(given + ": plan(" + being + ")", warren.plan(being), due);
+                        check.due(given + ": plan(" + being + ")", warren.plan(being), bestOf(warren, being));
                     }
                 }
-                warren.follow(1);
             }
         }
+    }
+
+    private static int bestOf(Warren warren, int being) {
+        int best = 0;
+        int most = warren.worth(being, 0);
+        for (int action = 1; action < 8; action++) {
+            int worth = warren.worth(being, action);
+            if (worth > most) {
+                best = action;
+                most = worth;
+            }
+        }
+        return best;
     }
 
     static void promise19WithNothingBetterItWaits() {

@@ -1,13 +1,14 @@
 import com.sun.management.ThreadMXBean;
 import java.lang.management.ManagementFactory;
 import java.util.function.IntConsumer;
+import java.util.function.ObjIntConsumer;
 
 /**
  * All calls of one run live in one room, in which nothing is ever thrown away: 600,000 objects and 7.3 million
  * elements. So no call may make anything, but for a new object, a saved game and an exception.
  */
 public final class RoomTest {
-    private static final int CALLS = 512;
+    private static final int CALLS = 480;
     /** Some for what the machine itself makes beside the calls. */
     private static final long SLACK = 20_000;
 
@@ -15,21 +16,19 @@ public final class RoomTest {
     private static int wrong = 0;
 
     public static void main(String[] args) {
-        Warren warren = full();
-        due("digest()", i -> warren.digest());
-        due("ahead(40)", i -> warren.ahead(40));
-        due("follow(1)", i -> warren.follow(1));
-        due("plan()", i -> warren.plan(i % 10));
-        due("worth()", i -> warren.worth(i % 10, i % 8));
-        due("way()", i -> warren.way(i % 10, i % 160));
-        due("many()", i -> warren.many(i % 9));
-        due("danger()", i -> warren.danger(i % 2, i % 160));
-        due("meanLife()", i -> warren.meanLife());
-        due("dig()", i -> warren.dig(1 + i % 4, 1, 10, 8));
-        due("set()", i -> warren.set(17 + i % 14, 3));
-        due("act(0)", i -> warren.act(0));
-        warren.save();
-        due("load(0)", i -> warren.load(0));
+        due("digest()", (w, i) -> w.digest());
+        due("ahead(40)", (w, i) -> w.ahead(40));
+        due("follow(1)", (w, i) -> w.follow(1));
+        due("plan()", (w, i) -> w.plan(i % 10));
+        due("worth()", (w, i) -> w.worth(i % 10, i % 8));
+        due("way()", (w, i) -> w.way(i % 10, i % 160));
+        due("many()", (w, i) -> w.many(i % 9));
+        due("danger()", (w, i) -> w.danger(i % 2, i % 160));
+        due("meanLife()", (w, i) -> w.meanLife());
+        due("dig()", (w, i) -> w.dig(1 + i % 4, 1, 10, 8));
+        due("set()", (w, i) -> w.set(17 + i % 14, 3));
+        due("act(0)", (w, i) -> w.act(0));
+        due("load(0)", (w, i) -> w.load(0));
         // Some 1,500 elements; with five saved games 4,100: even 512 of these stay under the 7.3 million.
         long each = made(i -> new Warren()) / CALLS;
         if (each > 7000) {
@@ -49,6 +48,7 @@ public final class RoomTest {
             warren.come(being % 2, (1 + being % 8) * 16 + 1 + being, 60);
             warren.become(being, 0, 20, 1 + being % 4);
         }
+        warren.save();
         return warren;
     }
 
@@ -62,8 +62,9 @@ public final class RoomTest {
         return BEAN.getThreadAllocatedBytes(thread) - before;
     }
 
-    private static void due(String name, IntConsumer call) {
-        long made = made(call);
+    private static void due(String name, ObjIntConsumer<Warren> call) {
+        Warren warren = full();
+        long made = made(i -> call.accept(warren, i));
         if (made > SLACK) {
             wrong++;
             System.out.println("RoomTest: " + CALLS + " calls of " + name + " make " + made + " bytes");

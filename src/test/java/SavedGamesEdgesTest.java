@@ -81,7 +81,8 @@ public final class SavedGamesEdgesTest {
             }
             check.due(given + ": many(8)", warren.many(8), before.many(8) + 1);
             before.save();
-            check.same(given + ": save() is like another one", warren, before);
+            check.same(given + ": save() as another one", warren, before);
+            check.sameKnown(given + ": save() as another one", 0, warren, before);
         }
     }
 
@@ -95,6 +96,7 @@ public final class SavedGamesEdgesTest {
         Warren same = new Warren();
         same.save();
         check.same("as a new one", warren, same);
+        check.sameKnown("as a new one", 0, warren, same);
     }
 
     static void promise20TheSavedMapDoesNotFollowThePlayedOne() {

@@ -1,4 +1,4 @@
-import java.math.BigInteger;
+import java.util.function.Supplier;
 
 /** Promises 22 to 26, what would be: each sentence that names an edge, in a case of its own. */
 public final class WouldBeEdgesTest {
@@ -411,46 +411,13 @@ public final class WouldBeEdgesTest {
 
     // ---- 26: digest
 
-    private static BigInteger step(BigInteger d, long v) {
-        return d.multiply(BigInteger.valueOf(31)).add(BigInteger.valueOf(v));
-    }
-
-    /** The checksum from what the other calls answer, wrapped around only at its end. */
-    private static long digestOf(Warren warren) {
-        BigInteger d = BigInteger.valueOf(58090);
-        for (int what = 0; what <= 8; what++) {
-            d = step(d, warren.many(what));
-        }
-        for (int cell = 0; cell < 160; cell++) {
-            d = step(d, warren.cell(cell));
-        }
-        for (int being = 0; being < warren.many(0); being++) {
-            d = digestOf(d, warren, being);
-        }
-        int turn = warren.many(3);
-        return (turn < 0 ? d : step(d, warren.danger(0, warren.of(turn, 1)))).longValue();
-    }
-
-    private static BigInteger digestOf(BigInteger start, Warren warren, int being) {
-        BigInteger d = start;
-        for (int what = 0; what <= 9; what++) {
-            d = step(d, warren.of(being, what));
-        }
-        for (int effect = 0; effect < 5; effect++) {
-            d = step(d, warren.effect(being, effect, false));
-            d = step(d, warren.effect(being, effect, true));
-        }
-        d = step(d, warren.target(being));
-        d = step(d, warren.plan(being));
-        for (int action = 0; action < 8; action++) {
-            d = step(d, warren.worth(being, action));
-        }
-        return d;
+    private static void dueDigest(String when, Supplier<Warren> made) {
+        check.due(when + ": digest()", made.get().digest(), Checksum.due(made));
     }
 
     static void promise26OfEveryState() {
         for (Given given : Given.values()) {
-            check.due(given + ": digest()", given.get().digest(), digestOf(given.get()));
+            dueDigest(given.toString(), given);
         }
     }
 
@@ -467,38 +434,60 @@ public final class WouldBeEdgesTest {
     }
 
     static void promise26WithoutATurnTheDangerIsLeftOut() {
-        Warren dead = Given.ALL_DEAD.get();
-        BigInteger d = BigInteger.valueOf(58090);
-        for (int what = 0; what <= 8; what++) {
-            d = step(d, dead.many(what));
+        long d = 58090;
+        int[] counts = {1, 0, 0, -1, 1, 0, 12, 0, 0};
+        for (int count : counts) {
+            d = d * 31 + count;
         }
         for (int cell = 0; cell < 160; cell++) {
-            d = step(d, dead.cell(cell));
+            d = d * 31 + (cell == 17 || cell == 18 || cell == 19 ? 0 : 1);
         }
-        d = digestOf(digestOf(d, dead, 0), dead, 1);
-        check.due("all are dead", dead.digest(), d.longValue());
+        int[] being = {0, -1, 0, 4, 5, 2, 2, 4, 6, 1};
+        for (int value : being) {
+            d = d * 31 + value;
+        }
+        int[] effects = {7, 2, 0, 0, 0, 0, 0, 0, 0, 0};
+        for (int value : effects) {
+            d = d * 31 + value;
+        }
+        int[] plans = {-1, -1, -1000, -1000, -1000, -1000, -1000, -1000, -1000, -1000};
+        for (int value : plans) {
+            d = d * 31 + value;
+        }
+        Warren warren = new Warren();
+        warren.dig(1, 1, 3, 1);
+        warren.come(0, 17, 4);
+        warren.lay(0, POISON, 7, 3);
+        warren.act(0);
+        check.due("one, and it is dead", warren.digest(), d);
     }
 
     static void promise26TheDangerIsThatOfTheSide0() {
-        Warren warren = Given.PAIR.get();
-        check.due("the TURN is of the side 1", warren.of(warren.many(3), 0), 1);
-        check.due("digest()", warren.digest(), digestOf(warren));
-        Warren other = sideBySide(9, 9);
-        other.come(1, at(5, 7), 9);
-        check.due("the TURN is of the side 0", other.of(other.many(3), 0), 0);
-        check.due("digest()", other.digest(), digestOf(other));
-        other.act(0);
-        check.due("digest() at the TURN of the side 1", other.digest(), digestOf(other));
+        check.due("the TURN of PAIR is of the side 1", Given.PAIR.get().of(Given.PAIR.get().many(3), 0), 1);
+        dueDigest("of the side 1", Given.PAIR);
+        check.due("the TURN of 3 is of the side 0", three().of(three().many(3), 0), 0);
+        dueDigest("of the side 0", WouldBeEdgesTest::three);
+    }
+
+    private static Warren three() {
+        Warren warren = sideBySide(9, 9);
+        warren.come(1, at(5, 7), 9);
+        return warren;
     }
 
     static void promise26OfEachActionOfALongFight() {
         for (Given given : new Given[] {Given.PAIR, Given.FULL}) {
             for (int turns = 1; turns <= 40; turns++) {
-                Warren warren = given.get();
-                warren.follow(turns);
-                check.due(given + ": digest() behind " + turns, warren.digest(), digestOf(warren));
+                int done = turns;
+                dueDigest(given + " behind " + turns, () -> followed(given, done));
             }
         }
+    }
+
+    private static Warren followed(Given given, int turns) {
+        Warren warren = given.get();
+        warren.follow(turns);
+        return warren;
     }
 
     static void promise26EachOfItsNumbersCounts() {

@@ -163,66 +163,66 @@ public final class WouldBeTest {
         check.dueMean("25: all are dead", dead.meanLife(), 0.0);
     }
 
-    /** The checksum, put together from what the other calls answer. */
-    private static long digestOf(Warren warren) {
-        long d = 58090;
-        for (int what = 0; what < 9; what++) {
-            d = d * 31 + warren.many(what);
+    private static Warren oneThatDies(int calls) {
+        Warren warren = new Warren();
+        if (calls > 0) {
+            warren.dig(1, 1, 14, 8);
         }
-        for (int cell = 0; cell < 160; cell++) {
-            d = d * 31 + warren.cell(cell);
+        if (calls > 1) {
+            warren.come(0, at(2, 2), 3);
         }
-        for (int being = 0; being < warren.many(0); being++) {
-            for (int what = 0; what < 10; what++) {
-                d = d * 31 + warren.of(being, what);
-            }
-            for (int effect = 0; effect < 5; effect++) {
-                d = d * 31 + warren.effect(being, effect, false);
-                d = d * 31 + warren.effect(being, effect, true);
-            }
-            d = d * 31 + warren.target(being);
-            d = d * 31 + warren.plan(being);
-            for (int action = 0; action < 8; action++) {
-                d = d * 31 + warren.worth(being, action);
-            }
+        if (calls > 2) {
+            warren.lay(0, 0, 3, 1);
         }
-        if (warren.many(3) >= 0) {
-            d = d * 31 + warren.danger(0, warren.of(warren.many(3), 1));
+        if (calls > 3) {
+            warren.lay(0, 3, 4, 6);
         }
-        return d;
+        if (calls > 4) {
+            warren.act(0);
+        }
+        return warren;
     }
 
     static void promise26Digest() {
-        Warren warren = new Warren();
-        check.due("26: a new one", warren.digest(), digestOf(warren));
-        warren.dig(1, 1, 14, 8);
-        check.due("26: without beings", warren.digest(), digestOf(warren));
-        warren.come(0, at(2, 2), 3);
-        check.due("26: one", warren.digest(), digestOf(warren));
-        warren.lay(0, 0, 3, 1);
-        warren.lay(0, 3, 4, 6);
-        check.due("26: with effects", warren.digest(), digestOf(warren));
-        warren.act(0);
-        check.due("26: dead", warren.digest(), digestOf(warren));
-        check.due("26: twice", warren.digest(), digestOf(warren));
+        for (int calls = 0; calls <= 5; calls++) {
+            int made = calls;
+            check.due("26: behind " + calls + " calls", oneThatDies(calls).digest(),
+                    Checksum.due(() -> oneThatDies(made)));
+        }
+        Warren warren = oneThatDies(5);
+        check.due("26: twice", warren.digest(), warren.digest());
+    }
+
+    private static Warren fought(int turns) {
+        Warren warren = fight();
+        warren.save();
+        for (int i = 0; i < turns; i++) {
+            warren.follow(1);
+        }
+        return warren;
     }
 
     static void promise26DigestAfterEachAction() {
-        Warren warren = fight();
-        warren.save();
-        check.due("26: at first", warren.digest(), digestOf(warren));
-        int done = 1;
-        for (int i = 0; i < 60 && done == 1; i++) {
-            done = warren.follow(1);
-            check.due("26: behind " + i, warren.digest(), digestOf(warren));
+        for (int turns = 0; turns <= 60; turns++) {
+            int done = turns;
+            check.due("26: behind " + turns, fought(turns).digest(), Checksum.due(() -> fought(done)));
         }
+    }
+
+    private static Warren ten(int turns) {
         Warren full = hall();
         for (int being = 0; being < 10; being++) {
             full.come(being % 2, at(1 + being, 1 + being % 8), 5 * being + 1);
             full.lay(being, being % 5, 1 + being % 9, 1 + being);
         }
-        check.due("26: with 10", full.digest(), digestOf(full));
-        full.follow(25);
-        check.due("26: with 10, some dead", full.digest(), digestOf(full));
+        if (turns > 0) {
+            full.follow(turns);
+        }
+        return full;
+    }
+
+    static void promise26DigestOf10() {
+        check.due("26: with 10", ten(0).digest(), Checksum.due(() -> ten(0)));
+        check.due("26: with 10, some dead", ten(25).digest(), Checksum.due(() -> ten(25)));
     }
 }
