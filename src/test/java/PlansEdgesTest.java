@@ -471,6 +471,15 @@ public final class PlansEdgesTest {
             warren.come(1, at(6, 5), life);
             check.due("a HIT of 3, LIFE " + life, warren.worth(0, 2), life <= 3 ? 59 : 29);
         }
+        Warren worn = alone();
+        worn.come(1, at(6, 5), 20);
+        worn.lay(1, POISON, 9, 2);
+        check.due("a HIT of 3, LIFE 20 of 20", worn.worth(0, 2), 29);
+        for (int i = 0; i < 4; i++) {
+            worn.act(0);
+        }
+        check.due("LIFE that is left", worn.of(1, 2), 2);
+        check.due("a HIT of 3, LIFE 2 of 20", worn.worth(0, 2), 59);
         Warren most = alone();
         most.come(1, at(6, 5), 29);
         most.become(0, 20, 0, 2);
