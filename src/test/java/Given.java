@@ -2,8 +2,8 @@ import java.util.Arrays;
 import java.util.function.Supplier;
 
 /**
- * The states that the edges are asked in: from nothing at all to as much of everything as there can be. Each get() makes
- * another object, in the same state; it takes fewer than 170 calls.
+ * The states that the edges are asked in: from nothing at all to as much of everything as there can be. Each get()
+ * makes another object, in the same state; it takes fewer than 170 calls.
  */
 enum Given implements Supplier<Warren> {
     /** Nothing dug, no being, no game. */

@@ -446,7 +446,8 @@ public final class PlansEdgesTest {
     static void promise18AHitIs20AndItThrice() {
         int[][] due = {
             // FORCE, STRONG, GUARD, SHIELD, the WORTH
-            {0, 0, 20, 9, 23}, {5, 0, 5, 0, 23}, {6, 0, 5, 0, 23}, {7, 0, 5, 0, 26}, {20, 9, 0, 0, 107}, {9, 1, 2, 3, 35},
+            {0, 0, 20, 9, 23}, {5, 0, 5, 0, 23}, {6, 0, 5, 0, 23}, {7, 0, 5, 0, 26}, {20, 9, 0, 0, 107},
+            {9, 1, 2, 3, 35},
         };
         for (int[] a : due) {
             for (int direction = 0; direction < 4; direction++) {

@@ -48,7 +48,8 @@ public final class WouldBeEdgesTest {
     static void promise22ForceAndStrongLessGuardAndShieldBut1AtTheLeast() {
         int[][] due = {
             {0, 0, 0, 0, 1}, {1, 0, 0, 0, 1}, {2, 0, 0, 0, 2}, {0, 0, 20, 9, 1}, {20, 0, 20, 0, 1}, {20, 1, 20, 0, 1},
-            {20, 2, 20, 0, 2}, {20, 9, 0, 0, 29}, {20, 9, 20, 9, 1}, {20, 9, 20, 7, 2}, {0, 9, 0, 0, 9}, {9, 0, 0, 9, 1},
+            {20, 2, 20, 0, 2}, {20, 9, 0, 0, 29}, {20, 9, 20, 9, 1}, {20, 9, 20, 7, 2}, {0, 9, 0, 0, 9},
+            {9, 0, 0, 9, 1},
         };
         for (int[] a : due) {
             Warren warren = sideBySide(60, 60);
