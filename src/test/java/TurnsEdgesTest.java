@@ -316,6 +316,33 @@ public final class TurnsEdgesTest {
         }
     }
 
+    /** A STACK of 2 for 3 TURNS: behind each of the next 3 ACTIONS of the one that is cursed, and of no other one. */
+    static void promise14ACurseTakes2BehindEachOf3Actions() {
+        Warren warren = sideBySide(60, 20);
+        warren.act(5);
+        int[] due = {18, 16, 14, 14, 14};
+        for (int i = 0; i < due.length; i++) {
+            int ahead = i == 0 ? 20 : due[i - 1];
+            check.due("whose TURN it is", warren.many(3), 1);
+            check.due("LIFE ahead of its ACTION " + i, warren.of(1, 2), ahead);
+            check.due("act(0)", warren.act(0), 0);
+            check.due("LIFE behind its ACTION " + i, warren.of(1, 2), due[i]);
+            warren.act(0);
+            check.due("LIFE behind that of the other one", warren.of(1, 2), due[i]);
+        }
+        check.due("LIFE of the one that cursed", warren.of(0, 2), 60);
+    }
+
+    static void promise14ACurseKillsAsTheOtherOneActs() {
+        Warren warren = sideBySide(60, 2);
+        check.due("act(5)", warren.act(5), 0);
+        check.due("it lives", warren.many(2), 1);
+        check.due("its own HIT", warren.act(4), 3);
+        check.due("it is dead", warren.of(1, 2), 0);
+        check.due("many(2)", warren.many(2), 0);
+        dueEffect("of the dead one", warren, 1, POISON, 2, 2);
+    }
+
     static void promise14CurseTakesTheNearestAndOfSeveralTheSmallestNumber() {
         Warren warren = alone(9);
         warren.come(1, at(8, 5), 9);
@@ -360,6 +387,45 @@ public final class TurnsEdgesTest {
             dueEffect("behind a STACK of " + a[0], warren, 0, REST, a[2], a[3]);
             check.due("LIFE, with that REST already", warren.of(0, 2), 24 + a[2]);
         }
+    }
+
+    /** A STACK of 3 for 4 TURNS, the first of which is that of its own ACTION. */
+    static void promise14AShieldHoldsUntilTheThirdActionBehindIt() {
+        Warren warren = sideBySide(60, 60);
+        warren.become(1, 10, 2, 2);
+        warren.act(6);
+        int[] due = {5, 5, 5, 8, 8};
+        for (int i = 0; i < due.length; i++) {
+            check.due("a HIT of 10 less 2, " + i + " of its ACTIONS later", warren.act(4), due[i]);
+            warren.act(0);
+        }
+    }
+
+    /** A STACK of 2 for 4 TURNS, the first of which is that of its own ACTION. */
+    static void promise14HealItselfGives2BehindEachOf4Actions() {
+        Warren warren = alone(20);
+        warren.lay(0, POISON, 9, 2);
+        warren.act(0);
+        warren.act(0);
+        check.due("LIFE", warren.of(0, 2), 2);
+        int[] due = {4, 6, 8, 10, 10};
+        for (int i = 0; i < due.length; i++) {
+            warren.act(i == 0 ? 7 : 0);
+            check.due("LIFE behind " + i, warren.of(0, 2), due[i]);
+        }
+    }
+
+    /** STRONG and SHIELD count in the last ACTION of their TURNS still, as they are gone behind it only. */
+    static void promise14AnEffectCountsInItsLastAction() {
+        Warren warren = sideBySide(60, 60);
+        warren.lay(0, STRONG, 4, 1);
+        warren.lay(1, SHIELD, 2, 1);
+        check.due("STRONG 4, 1 TURN, against SHIELD 2", warren.act(2), 5);
+        dueEffect("of the one that acted", warren, 0, STRONG, 0, 0);
+        dueEffect("of the other one", warren, 1, SHIELD, 2, 1);
+        warren.act(0);
+        dueEffect("of the other one, as it acted", warren, 1, SHIELD, 0, 0);
+        check.due("neither", warren.act(2), 3);
     }
 
     static void promise14RestGivesUpToMostLife() {
